@@ -377,16 +377,12 @@ public final class ChunkView {
             return size;
         }
 
-        private boolean has(int i) {
-            return i >= 0 && i < size && i < numbers.length;
-        }
-
         int get(int i) {
-            return has(i) ? numbers[i] : 0;
+            return i >= 0 && i < size && i < numbers.length ? numbers[i] : 0;
         }
 
         void set(int i, int number) {
-            if (has(i)) {
+            if (i >= 0 && i < size && i < numbers.length) {
                 numbers[i] = number;
             }
         }
@@ -420,11 +416,10 @@ public final class ChunkView {
             if (i < 0 || i > size || n < 0 || n > numbers.length - size) {
                 return;
             }
-            int had = size;
-            size += n;
-            for (int from = had - 1; from >= i; from--) {
-                set(from + n, get(from));
+            for (int from = size - 1; from >= i; from--) {
+                numbers[from + n] = numbers[from];
             }
+            size += n;
         }
 
         /** Takes the n numbers at i away. */
@@ -784,10 +779,6 @@ public final class ChunkView {
         int bytesMore() {
             return tape.size() - taken;
         }
-
-        void appliesTo(Page text) {
-            text.replaces(place, taken, tape);
-        }
     }
 
     /** The edits that are staged, by their places. */
@@ -859,7 +850,7 @@ public final class ChunkView {
             for (int i = size - 1; i >= 0; i--) {
                 Edit edit = slot(i);
                 if (edit != null) {
-                    edit.appliesTo(text);
+                    text.replaces(edit.place, edit.taken, edit.tape);
                 }
             }
         }

@@ -1,0 +1,108 @@
+import java.lang.reflect.Constructor;
+import java.lang.reflect.Field;
+import java.lang.reflect.Method;
+import java.lang.reflect.Modifier;
+import java.nio.file.Files;
+import java.nio.file.Path;
+import java.util.HashSet;
+import java.util.Set;
+import java.util.TreeSet;
+import java.util.regex.Matcher;
+import java.util.regex.Pattern;
+
+/** The rules of LANGUAGE.md that a program can see: the face, words that are ruled out, sizes. Argument: the file. */
+public final class LanguageTest {
+    private static final String[] FACE = {
+        "int type(int)", "int clear()", "int edits(int,int)", "int stages(int,int)", "int does()", "int drops()",
+        "int undo()", "int at(int)", "int tells(int,int,int)", "int spot(int,int)", "int column(int,int)",
+        "int line(int,int)", "int wide(int)", "int chunk(int,int)", "int marks(int,int)", "int lifts(int)",
+        "int mark(int)", "int next(int)", "int seeks(int)", "int reads()", "int keep(int)", "int back(int)",
+        "int count(int)", "long digest()"};
+    private static final String[] CONSTANTS = {"BAD", "STATE", "FULL", "NONE"};
+    private static final String[] RULED_OUT = {
+        "\\bthrow\\b", "\\bthrows\\b", "\\btry\\b", "\\bcatch\\b", "\\bfinally\\b", "\\bsynchronized\\b",
+        "\\bassert\\b", "->", "::", "\\bimport\\b", "\\bpackage\\b", "\\bObject\\b", "Exact\\b", "\\bthis\\b\\s*[,)]",
+        "\\bequals\\b", "\\bhashCode\\b", "\\btoString\\b", "\\bSystem\\.(?!arraycopy)", "\\bstatic\\s*\\{"};
+
+    private LanguageTest() {
+    }
+
+    private static String shape(Method m) {
+        StringBuilder shape = new StringBuilder(m.getReturnType().getName() + " " + m.getName() + "(");
+        for (Class<?> type : m.getParameterTypes()) {
+            shape.append(shape.charAt(shape.length() - 1) == '(' ? "" : ",").append(type.getName());
+        }
+        return shape.append(")").toString();
+    }
+
+    private static void face() {
+        Class<?> c = ChunkView.class;
+        Due.holds("the class is public and final",
+            Modifier.isPublic(c.getModifiers()) && Modifier.isFinal(c.getModifiers()));
+        Set<String> open = new TreeSet<>();
+        Set<String> names = new HashSet<>();
+        for (Method m : c.getDeclaredMethods()) {
+            if (!Modifier.isPrivate(m.getModifiers())) {
+                Due.holds(m + " is public and not static",
+                    Modifier.isPublic(m.getModifiers()) && !Modifier.isStatic(m.getModifiers()));
+                open.add(shape(m));
+                names.add(m.getName());
+            }
+        }
+        Due.holds("the methods are those of the face: " + open, open.equals(new TreeSet<>(Set.of(FACE))));
+        for (Constructor<?> made : c.getDeclaredConstructors()) {
+            Due.holds(made + " is the public one",
+                Modifier.isPublic(made.getModifiers()) && made.getParameterCount() == 0);
+        }
+        Set<String> constants = new TreeSet<>();
+        for (Field f : c.getDeclaredFields()) {
+            if (!Modifier.isPrivate(f.getModifiers())) {
+                constants.add(f.getName());
+            }
+            Due.holds(f + ": static fields are final",
+                !Modifier.isStatic(f.getModifiers()) || Modifier.isFinal(f.getModifiers()));
+        }
+        Due.holds("the constants are those of the face", constants.equals(new TreeSet<>(Set.of(CONSTANTS))));
+        inside(c, names);
+    }
+
+    private static void inside(Class<?> c, Set<String> faceNames) {
+        for (Method m : c.getDeclaredMethods()) {
+            Due.holds(m + " has a name of its own",
+                !Modifier.isPrivate(m.getModifiers()) || !faceNames.contains(m.getName()));
+        }
+        Due.holds("no more than twelve classes", c.getDeclaredClasses().length < 12);
+        for (Class<?> own : c.getDeclaredClasses()) {
+            Due.holds(own + " is static, private or package-visible", Modifier.isStatic(own.getModifiers())
+                && !Modifier.isPublic(own.getModifiers()) && !Modifier.isProtected(own.getModifiers()));
+            Due.holds(own + " has at most twenty fields", own.getDeclaredFields().length <= 20);
+            for (Method m : own.getDeclaredMethods()) {
+                Due.holds(m + " takes at most seven", m.getParameterCount() <= 7);
+                Due.holds(m + " has a name of its own", !faceNames.contains(m.getName()));
+            }
+        }
+    }
+
+    private static void constants() {
+        Due.due("BAD", ChunkView.BAD, -1);
+        Due.due("STATE", ChunkView.STATE, -2);
+        Due.due("FULL", ChunkView.FULL, -3);
+        Due.due("NONE", ChunkView.NONE, -9);
+    }
+
+    private static void words(String source) {
+        String code = source.replaceAll("(?s)/\\*.*?\\*/", "").replaceAll("//[^\n]*", "");
+        for (String word : RULED_OUT) {
+            Matcher found = Pattern.compile(word).matcher(code);
+            Due.holds("no " + word, !found.find());
+        }
+        Due.holds("characters 1 to 127 alone", source.chars().allMatch(sign -> sign < 128));
+    }
+
+    public static void main(String[] args) throws Exception {
+        face();
+        constants();
+        words(Files.readString(Path.of(args[0])));
+        Due.ends();
+    }
+}
