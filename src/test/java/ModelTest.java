@@ -1,7 +1,13 @@
 import java.util.Random;
 
-/** Long runs of calls, the same ones each time, on the class and on the model: every answer must be the same. */
+/**
+ * Runs of calls, the same ones each time, on the class and on the model: every answer must be the same. No object is
+ * used for more than 512 calls, since the document says nothing of later ones.
+ */
 public final class ModelTest {
+    private static final int MOST_CALLS = 512;
+    // More than one step of a run may take.
+    private static final int STEP = 40;
     // Few kinds of bytes, the edges of the document's ranges among them, so that runs of each kind come up.
     private static final int[] BYTES = {
         10, 10, 97, 98, 32, 31, 0, 127, 128, 150, 191, 192, 223, 224, 226, 255};
@@ -14,6 +20,7 @@ public final class ModelTest {
     private final String run;
     private final int style;
     private String latest = "";
+    private int calls;
 
     private ModelTest(int seed) {
         random = new Random(seed);
@@ -44,8 +51,9 @@ public final class ModelTest {
     }
 
     private void same(String call, long got, long want) {
+        calls++;
+        Due.due(run + ": " + call + " behind " + latest, got, want);
         latest = call;
-        Due.due(run + ": " + call, got, want);
     }
 
     private void types(int times) {
@@ -107,22 +115,19 @@ public final class ModelTest {
 
     private void images() {
         int image = odd(below(3));
-        if (below(3) == 0) {
+        if (below(4) == 0) {
             same("back(" + image + ")", view.back(image), model.back(image));
         } else {
             same("keep(" + image + ")", view.keep(image), model.keep(image));
         }
     }
 
-    private void countsAll() {
-        String behind = " behind " + latest;
-        for (int what = -1; what <= 12; what++) {
-            Due.due(run + ": count(" + what + ")" + behind, view.count(what), model.count(what));
-        }
-        Due.due(run + ": digest()" + behind, view.digest(), model.digest());
-        for (int k = 0; k < model.count(6); k++) {
-            Due.due(run + ": chunk(" + k + ", 0)" + behind, view.chunk(k, 0), model.chunk(k, 0));
-        }
+    // The digest tells bytes, chunks and marks.
+    private void asksAfterAll() {
+        int what = below(12);
+        same("digest()", view.digest(), model.digest());
+        same("count(8)", view.count(8), model.count(8));
+        same("count(" + what + ")", view.count(what), model.count(what));
     }
 
     // To a text near its limit, so that FULL comes up too.
@@ -133,11 +138,24 @@ public final class ModelTest {
         }
     }
 
-    private void goes(int steps) {
+    // As many as there may be, so that there is no room for one more.
+    private void marksMany() {
+        types(24);
+        same("edits(0, 0)", view.edits(0, 0), model.edits(0, 0));
+        for (int name = 'b'; name < 'j'; name++) {
+            int place = below(model.count(0) + 1);
+            same("marks(" + name + ", " + place + ")", view.marks(name, place), model.marks(name, place));
+        }
+    }
+
+    private ModelTest goes(int upTo) {
         if (style == 3) {
             fills();
         }
-        for (int i = 0; i < steps && Due.wrong() < 20; i++) {
+        if (style == 4) {
+            marksMany();
+        }
+        while (calls + STEP < upTo && Due.wrong() < 20) {
             int kind = below(20);
             if (kind < 11) {
                 changes();
@@ -145,52 +163,78 @@ public final class ModelTest {
                 asksPlaces();
             } else if (kind < 19) {
                 marksAndReads();
-            } else if (below(3) == 0) {
+            } else {
                 images();
             }
-            countsAll();
+            asksAfterAll();
+        }
+        return this;
+    }
+
+    private boolean mayAsk() {
+        return calls < MOST_CALLS;
+    }
+
+    private void asksAllTells(int from) {
+        for (int v = -1; v <= model.count(from) + 1; v++) {
+            for (int to = 0; to < 4 && mayAsk(); to++) {
+                same("tells(" + from + ", " + v + ", " + to + ")", view.tells(from, v, to), model.tells(from, v, to));
+            }
         }
     }
 
-    // Every question about places, on one text.
-    private void asksEverything() {
-        for (int from = 0; from < 4; from++) {
-            for (int v = -1; v <= model.count(from) + 1; v++) {
-                for (int to = 0; to < 4; to++) {
-                    same("tells(" + from + ", " + v + ", " + to + ")",
-                        view.tells(from, v, to), model.tells(from, v, to));
-                }
-            }
-        }
-        for (int k = -1; k <= model.count(4); k++) {
-            same("wide(" + k + ")", view.wide(k), model.wide(k));
-            for (int cells = -1; cells < 14; cells++) {
-                same("column(" + k + ", " + cells + ")", view.column(k, cells), model.column(k, cells));
-            }
-            for (int what = -1; what < 5; what++) {
-                same("line(" + k + ", " + what + ")", view.line(k, what), model.line(k, what));
-            }
-        }
+    private void asksAllSpots() {
         for (int place = -1; place <= model.count(0) + 1; place++) {
-            for (int what = -1; what < 5; what++) {
+            for (int what = -1; what < 5 && mayAsk(); what++) {
                 same("spot(" + place + ", " + what + ")", view.spot(place, what), model.spot(place, what));
             }
         }
+    }
+
+    private void asksAllColumns() {
+        for (int k = -1; k <= model.count(4); k++) {
+            for (int cells = -1; cells < 14 && mayAsk(); cells++) {
+                same("column(" + k + ", " + cells + ")", view.column(k, cells), model.column(k, cells));
+            }
+        }
+    }
+
+    private void asksAllLines() {
+        for (int k = -1; k <= model.count(4); k++) {
+            for (int what = -1; what < 5 && mayAsk(); what++) {
+                same("line(" + k + ", " + what + ")", view.line(k, what), model.line(k, what));
+            }
+        }
+    }
+
+    private void asksAllWideAndChunks() {
+        for (int k = -1; k <= model.count(4) && mayAsk(); k++) {
+            same("wide(" + k + ")", view.wide(k), model.wide(k));
+        }
         for (int k = -1; k <= model.count(6); k++) {
-            for (int what = -1; what < 6; what++) {
+            for (int what = -1; what < 6 && mayAsk(); what++) {
                 same("chunk(" + k + ", " + what + ")", view.chunk(k, what), model.chunk(k, what));
             }
         }
     }
 
-    public static void main(String[] args) {
-        for (int seed = 0; seed < 400 && Due.wrong() < 20; seed++) {
-            new ModelTest(seed).goes(120);
+    // Every question about places on one text: the same run is made once for each kind of question.
+    private static void asksEverything(int seed) {
+        for (int from = 0; from < 4; from++) {
+            new ModelTest(seed).goes(200).asksAllTells(from);
         }
-        for (int seed = 1000; seed < 1030 && Due.wrong() < 20; seed++) {
-            ModelTest test = new ModelTest(seed);
-            test.goes(60);
-            test.asksEverything();
+        new ModelTest(seed).goes(200).asksAllSpots();
+        new ModelTest(seed).goes(200).asksAllColumns();
+        new ModelTest(seed).goes(200).asksAllLines();
+        new ModelTest(seed).goes(200).asksAllWideAndChunks();
+    }
+
+    public static void main(String[] args) {
+        for (int seed = 0; seed < 2000 && Due.wrong() < 20; seed++) {
+            new ModelTest(seed).goes(MOST_CALLS);
+        }
+        for (int seed = 10000; seed < 10100 && Due.wrong() < 20; seed++) {
+            asksEverything(seed);
         }
         Due.ends();
     }

@@ -14,45 +14,12 @@ public final class PromisesTest {
         Due.due(call, got, want);
     }
 
-    private static void types(ChunkView x, int... bytes) {
-        for (int b : bytes) {
-            x.type(b);
-        }
-    }
-
     private static void types(ChunkView x, String bytes) {
-        types(x, bytes.chars().toArray());
+        Made.types(x, bytes);
     }
 
-    /** An object whose text is this one, put in at its end in pieces that a tape can hold. */
     private static ChunkView with(String text) {
-        ChunkView x = new ChunkView();
-        for (int from = 0; from < text.length(); from += 24) {
-            types(x, text.substring(from, Math.min(from + 24, text.length())));
-            x.edits(from, 0);
-        }
-        return x;
-    }
-
-    private static void dueText(String when, ChunkView x, String text) {
-        due(when + ": bytes", x.count(0), text.length());
-        for (int i = 0; i < text.length(); i++) {
-            due(when + ": at(" + i + ")", x.at(i), text.charAt(i));
-        }
-    }
-
-    private static void dueChunks(String when, ChunkView x, int... sizes) {
-        due(when + ": chunks", x.count(6), sizes.length);
-        for (int k = 0; k < sizes.length; k++) {
-            due(when + ": chunk(" + k + ", 0)", x.chunk(k, 0), sizes[k]);
-        }
-    }
-
-    private static void dueRow(String when, int[] got, int... want) {
-        due(when + ": how many", got.length, want.length);
-        for (int i = 0; i < Math.min(got.length, want.length); i++) {
-            due(when + " [" + i + "]", got[i], want[i]);
-        }
+        return Made.with(text);
     }
 
     private static void promise1() {
@@ -103,14 +70,14 @@ public final class PromisesTest {
         due("3: clear() again", x.clear(), 0);
         types(x, "z");
         x.edits(0, 0);
-        dueText("3: edits behind clear()", x, "z");
+        Due.text("3: edits behind clear()", x, "z");
     }
 
     private static void promise4() {
         ChunkView x = with("hello");
         types(x, "EY");
         due("4: edits(1, 3)", x.edits(1, 3), 4);
-        dueText("4: edits(1, 3)", x, "hEYo");
+        Due.text("4: edits(1, 3)", x, "hEYo");
         due("4: the tape is empty", x.count(9), 0);
         due("4: edits(4, 0) at the end", x.edits(4, 0), 4);
         due("4: edits(5, 0)", x.edits(5, 0), BAD);
@@ -128,7 +95,7 @@ public final class PromisesTest {
         x.stages(0, 0);
         due("4: edits(0, 0), something is staged", x.edits(0, 0), STATE);
         due("4: edits(9, 0), something is staged", x.edits(9, 0), BAD);
-        dueText("4: refused", x, "hEYo");
+        Due.text("4: refused", x, "hEYo");
         promise4Full();
     }
 
@@ -150,51 +117,51 @@ public final class PromisesTest {
     }
 
     private static void chunksPutIn() {
-        dueChunks("chunks: 8", with("12345678"), 8);
-        dueChunks("chunks: 9", with("123456789"), 5, 4);
-        dueChunks("chunks: 17", with("12345678901234567"), 6, 6, 5);
-        dueChunks("chunks: 23", with("x".repeat(23)), 8, 8, 7);
-        dueChunks("chunks: 24", with("x".repeat(24)), 8, 8, 8);
+        Due.chunks("chunks: 8", with("12345678"), 8);
+        Due.chunks("chunks: 9", with("123456789"), 5, 4);
+        Due.chunks("chunks: 17", with("12345678901234567"), 6, 6, 5);
+        Due.chunks("chunks: 23", with("x".repeat(23)), 8, 8, 7);
+        Due.chunks("chunks: 24", with("x".repeat(24)), 8, 8, 8);
         ChunkView x = with("123456789");
         types(x, "abc");
         x.edits(5, 0);
-        dueChunks("chunks: behind a chunk's last byte", x, 8, 4);
+        Due.chunks("chunks: behind a chunk's last byte", x, 8, 4);
         types(x, "d");
         x.edits(9, 0);
-        dueChunks("chunks: in the second one", x, 8, 5);
+        Due.chunks("chunks: in the second one", x, 8, 5);
         types(x, "e");
         x.edits(0, 0);
-        dueChunks("chunks: at place 0", x, 5, 4, 5);
-        dueText("chunks: at place 0", x, "e12345abc6d789");
+        Due.chunks("chunks: at place 0", x, 5, 4, 5);
+        Due.text("chunks: at place 0", x, "e12345abc6d789");
         types(x, "y".repeat(24));
         x.edits(5, 0);
-        dueChunks("chunks: 29 in one", x, 8, 7, 7, 7, 4, 5);
+        Due.chunks("chunks: 29 in one", x, 8, 7, 7, 7, 4, 5);
     }
 
     private static void chunksTakenOut() {
         ChunkView x = with("123456789");
         x.edits(8, 1);
-        dueChunks("chunks: the last one has no next", x, 5, 3);
+        Due.chunks("chunks: the last one has no next", x, 5, 3);
         x = with("123456789");
         x.edits(5, 1);
-        dueChunks("chunks: byte ahead is in the first", x, 8);
+        Due.chunks("chunks: byte ahead is in the first", x, 8);
         x = with("123456789");
         x.edits(0, 1);
-        dueChunks("chunks: none ahead, the first and the next", x, 8);
+        Due.chunks("chunks: none ahead, the first and the next", x, 8);
         x = with("x".repeat(24));
         x.edits(4, 16);
-        dueChunks("chunks: one without bytes goes, two are joined", x, 8);
+        Due.chunks("chunks: one without bytes goes, two are joined", x, 8);
         x = with("x".repeat(24));
         x.edits(7, 10);
-        dueChunks("chunks: 7 and 7 stay two", x, 7, 7);
+        Due.chunks("chunks: 7 and 7 stay two", x, 7, 7);
         x = with("x".repeat(24));
         x.edits(0, 8);
-        dueChunks("chunks: the first one goes", x, 8, 8);
+        Due.chunks("chunks: the first one goes", x, 8, 8);
         x.edits(0, 16);
-        dueChunks("chunks: none are left", x);
+        Due.chunks("chunks: none are left", x);
         types(x, "a");
         x.edits(0, 0);
-        dueChunks("chunks: a new one", x, 1);
+        Due.chunks("chunks: a new one", x, 1);
         chunksJoinedOnce();
     }
 
@@ -202,24 +169,24 @@ public final class PromisesTest {
         ChunkView x = with("x".repeat(24));
         x.edits(17, 6);
         x.edits(9, 6);
-        dueChunks("chunks: 2 joined with the next one alone", x, 8, 4);
+        Due.chunks("chunks: 2 joined with the next one alone", x, 8, 4);
         x.edits(1, 5);
-        dueChunks("chunks: 3 and 4", x, 7);
+        Due.chunks("chunks: 3 and 4", x, 7);
         x = with("x".repeat(24));
         x.edits(23, 1);
         x.edits(15, 1);
         x.edits(1, 5);
-        dueChunks("chunks: 3, 7, 7", x, 3, 7, 7);
+        Due.chunks("chunks: 3, 7, 7", x, 3, 7, 7);
         x.edits(4, 4);
-        dueChunks("chunks: 3 ahead is not joined", x, 3, 3, 7);
+        Due.chunks("chunks: 3 ahead is not joined", x, 3, 3, 7);
         x.edits(0, 0);
-        dueChunks("chunks: no bytes taken out, nothing is done", x, 3, 3, 7);
+        Due.chunks("chunks: no bytes taken out, nothing is done", x, 3, 3, 7);
         types(x, "z");
         x.edits(3, 0);
-        dueChunks("chunks: put in joins nothing", x, 4, 3, 7);
+        Due.chunks("chunks: put in joins nothing", x, 4, 3, 7);
         types(x, "z");
         x.edits(4, 1);
-        dueChunks("chunks: joined by what is taken out, then grown", x, 7, 7);
+        Due.chunks("chunks: joined by what is taken out, then grown", x, 7, 7);
     }
 
     private static void promise5() {
@@ -248,7 +215,7 @@ public final class PromisesTest {
         types(x, "abc");
         x.stages(15, 0);
         due("5: a refused one leaves the tape", x.count(9), 3);
-        dueText("5: the text stays", x, "0123456789abcdefghij");
+        Due.text("5: the text stays", x, "0123456789abcdefghij");
     }
 
     private static void promise6() {
@@ -261,14 +228,14 @@ public final class PromisesTest {
         x.stages(3, 2);
         types(x, "tape");
         due("6: does()", x.does(), 11);
-        dueText("6: does()", x, "<012567ABC9");
-        dueChunks("6: does()", x, 4, 7);
+        Due.text("6: does()", x, "<012567ABC9");
+        Due.chunks("6: does()", x, 4, 7);
         due("6: nothing is staged", x.count(10), 0);
         due("6: the tape stays", x.count(9), 4);
         due("6: does() again", x.does(), STATE);
         due("6: one undo for all", x.undo(), 1);
-        dueText("6: undone", x, "0123456789");
-        dueChunks("6: undone", x, 5, 5);
+        Due.text("6: undone", x, "0123456789");
+        Due.chunks("6: undone", x, 5, 5);
         promise6Full();
     }
 
@@ -309,9 +276,9 @@ public final class PromisesTest {
         due("7: the tape stays", x.count(9), 2);
         due("7: does()", x.does(), STATE);
         due("7: what was staged touches no more", x.stages(5, 2), 1);
-        dueText("7: the text stays", x, "0123456789");
+        Due.text("7: the text stays", x, "0123456789");
         due("7: does() without what was dropped", x.does(), 10);
-        dueText("7: does()", x, "01234bc789");
+        Due.text("7: does()", x, "01234bc789");
         promise7Dropped();
     }
 
@@ -325,7 +292,7 @@ public final class PromisesTest {
         types(x, "gh");
         x.stages(118, 0);
         due("7: what was dropped is no longer counted", x.does(), 120);
-        dueText("7: what was dropped is not done", x, "x".repeat(118) + "gh");
+        Due.text("7: what was dropped is not done", x, "x".repeat(118) + "gh");
     }
 
     private static void promise8() {
@@ -342,8 +309,8 @@ public final class PromisesTest {
         x.seeks(0);
         types(x, "t");
         due("8: undo()", x.undo(), 1);
-        dueText("8: undone", x, "abcdefghijkl");
-        dueChunks("8: undone", x, 6, 6);
+        Due.text("8: undone", x, "abcdefghijkl");
+        Due.chunks("8: undone", x, 6, 6);
         due("8: mark(m)", x.mark('m'), 7);
         due("8: mark(n)", x.mark('n'), NONE);
         due("8: the reader", x.count(8), 9);
@@ -374,7 +341,7 @@ public final class PromisesTest {
             due("8: bytes", x.count(0), left + 3);
         }
         due("8: older ones are lost", x.undo(), STATE);
-        dueText("8: the oldest known", x, "abc");
+        Due.text("8: the oldest known", x, "abc");
     }
 
     private static void promise9() {
@@ -401,17 +368,17 @@ public final class PromisesTest {
 
     private static void promise10() {
         ChunkView x = with(MIXED);
-        dueRow("10: bytes as bytes", told(x, 0, 0), 0, 1, 2, 3, 4, 5, 6, 7, 8, 9, 10);
-        dueRow("10: bytes as letters", told(x, 0, 1), 0, 1, 2, 3, 3, 3, 4, 4, 5, 6, 7);
-        dueRow("10: bytes as ends", told(x, 0, 2), 0, 0, 1, 1, 1, 1, 1, 1, 1, 2, 2);
-        dueRow("10: bytes as cells", told(x, 0, 3), 0, 1, 1, 3, 3, 3, 4, 4, 4, 4, 5);
-        dueRow("10: letters as bytes", told(x, 1, 0), 0, 1, 2, 5, 7, 8, 9, 10);
-        dueRow("10: letters as cells", told(x, 1, 3), 0, 1, 1, 3, 4, 4, 4, 5);
-        dueRow("10: ends as bytes", told(x, 2, 0), 0, 2, 9);
-        dueRow("10: ends as letters", told(x, 2, 1), 0, 2, 6);
-        dueRow("10: cells as bytes", told(x, 3, 0), 0, 2, 2, 5, 9, 10);
-        dueRow("10: cells as cells", told(x, 3, 3), 0, 1, 1, 3, 4, 5);
-        dueRow("10: cells as ends", told(x, 3, 2), 0, 1, 1, 1, 2, 2);
+        Due.row("10: bytes as bytes", told(x, 0, 0), 0, 1, 2, 3, 4, 5, 6, 7, 8, 9, 10);
+        Due.row("10: bytes as letters", told(x, 0, 1), 0, 1, 2, 3, 3, 3, 4, 4, 5, 6, 7);
+        Due.row("10: bytes as ends", told(x, 0, 2), 0, 0, 1, 1, 1, 1, 1, 1, 1, 2, 2);
+        Due.row("10: bytes as cells", told(x, 0, 3), 0, 1, 1, 3, 3, 3, 4, 4, 4, 4, 5);
+        Due.row("10: letters as bytes", told(x, 1, 0), 0, 1, 2, 5, 7, 8, 9, 10);
+        Due.row("10: letters as cells", told(x, 1, 3), 0, 1, 1, 3, 4, 4, 4, 5);
+        Due.row("10: ends as bytes", told(x, 2, 0), 0, 2, 9);
+        Due.row("10: ends as letters", told(x, 2, 1), 0, 2, 6);
+        Due.row("10: cells as bytes", told(x, 3, 0), 0, 2, 2, 5, 9, 10);
+        Due.row("10: cells as cells", told(x, 3, 3), 0, 1, 1, 3, 4, 5);
+        Due.row("10: cells as ends", told(x, 3, 2), 0, 1, 1, 1, 2, 2);
         int[] most = {10, 7, 2, 5};
         for (int from = 0; from < 4; from++) {
             due("10: tells(" + from + ", one more, 0)", x.tells(from, most[from] + 1, 0), BAD);
@@ -427,11 +394,11 @@ public final class PromisesTest {
 
     private static void promise10Edges() {
         ChunkView x = with("\u0080\u00bf");
-        dueRow("10: no letters: the end", told(x, 1, 0), 2);
-        dueRow("10: no cells: the end", told(x, 3, 0), 2);
+        Due.row("10: no letters: the end", told(x, 1, 0), 2);
+        Due.row("10: no cells: the end", told(x, 3, 0), 2);
         x = with("\u0000\u001f\u0020\u007f\u0080\u00bf\u00c0\u00df\u00e0\u00ff");
-        dueRow("10: letters at the edges", told(x, 0, 1), 0, 1, 2, 3, 4, 4, 4, 5, 6, 7, 8);
-        dueRow("10: cells at the edges", told(x, 0, 3), 0, 0, 0, 1, 2, 2, 2, 3, 4, 6, 8);
+        Due.row("10: letters at the edges", told(x, 0, 1), 0, 1, 2, 3, 4, 4, 4, 5, 6, 7, 8);
+        Due.row("10: cells at the edges", told(x, 0, 3), 0, 0, 0, 1, 2, 2, 2, 3, 4, 6, 8);
     }
 
     private static int[] spots(ChunkView x, int what) {
@@ -444,10 +411,10 @@ public final class PromisesTest {
 
     private static void promise11() {
         ChunkView x = with(MIXED);
-        dueRow("11: line", spots(x, 0), 0, 0, 1, 1, 1, 1, 1, 1, 1, 2, 2);
-        dueRow("11: bytes", spots(x, 1), 0, 1, 0, 1, 2, 3, 4, 5, 6, 0, 1);
-        dueRow("11: letters", spots(x, 2), 0, 1, 0, 1, 1, 1, 2, 2, 3, 0, 1);
-        dueRow("11: cells", spots(x, 3), 0, 1, 0, 2, 2, 2, 3, 3, 3, 0, 1);
+        Due.row("11: line", spots(x, 0), 0, 0, 1, 1, 1, 1, 1, 1, 1, 2, 2);
+        Due.row("11: bytes", spots(x, 1), 0, 1, 0, 1, 2, 3, 4, 5, 6, 0, 1);
+        Due.row("11: letters", spots(x, 2), 0, 1, 0, 1, 1, 1, 2, 2, 3, 0, 1);
+        Due.row("11: cells", spots(x, 3), 0, 1, 0, 2, 2, 2, 3, 3, 3, 0, 1);
         due("11: spot(11, 0)", x.spot(11, 0), BAD);
         due("11: spot(-1, 0)", x.spot(-1, 0), BAD);
         due("11: spot(0, 4)", x.spot(0, 4), BAD);
@@ -462,7 +429,7 @@ public final class PromisesTest {
         for (int cells = 0; cells < 5; cells++) {
             columns[cells] = x.column(1, cells);
         }
-        dueRow("12: line 1", columns, 2, 2, 5, 8, 8);
+        Due.row("12: line 1", columns, 2, 2, 5, 8, 8);
         due("12: column(0, 0)", x.column(0, 0), 0);
         due("12: column(0, 1), ahead of the 10", x.column(0, 1), 1);
         due("12: column(2, 0)", x.column(2, 0), 9);
@@ -589,23 +556,23 @@ public final class PromisesTest {
     private static void marksTakenAlong() {
         ChunkView x = withMarks();
         x.edits(3, 3);
-        dueRow("16: taken out", places(x), 0, 3, 3, 3, 3, 4, 7);
+        Due.row("16: taken out", places(x), 0, 3, 3, 3, 3, 4, 7);
         x = withMarks();
         types(x, "xy");
         x.edits(4, 0);
-        dueRow("16: put in", places(x), 0, 3, 4, 7, 8, 9, 12);
+        Due.row("16: put in", places(x), 0, 3, 4, 7, 8, 9, 12);
         x = withMarks();
         types(x, "xy");
         x.edits(3, 3);
-        dueRow("16: taken out, put in", places(x), 0, 3, 3, 3, 3, 6, 9);
+        Due.row("16: taken out, put in", places(x), 0, 3, 3, 3, 3, 6, 9);
         x = withMarks();
         x.stages(0, 2);
         types(x, "xyz");
         x.stages(5, 1);
         x.does();
-        dueRow("16: staged", places(x), 0, 1, 2, 3, 3, 7, 10);
+        Due.row("16: staged", places(x), 0, 1, 2, 3, 3, 7, 10);
         x.undo();
-        dueRow("16: undone", places(x), 0, 3, 4, 5, 6, 7, 10);
+        Due.row("16: undone", places(x), 0, 3, 4, 5, 6, 7, 10);
         x.marks('a', 9);
         x.marks('z', 8);
         x.edits(1, 1);
@@ -751,8 +718,8 @@ public final class PromisesTest {
         x.stages(0, 1);
         types(x, "new");
         due("23: back(1)", x.back(1), 12);
-        dueText("23: back(1)", x, "0123456789ab");
-        dueChunks("23: back(1)", x, 6, 6);
+        Due.text("23: back(1)", x, "0123456789ab");
+        Due.chunks("23: back(1)", x, 6, 6);
         due("23: mark(m)", x.mark('m'), 9);
         due("23: mark(n)", x.mark('n'), NONE);
         due("23: the reader", x.count(8), 11);
@@ -763,9 +730,9 @@ public final class PromisesTest {
         due("23: lines", x.count(4), 1);
         x.edits(0, 12);
         due("23: back(1) again", x.back(1), 12);
-        dueText("23: an image stays as it was", x, "0123456789ab");
+        Due.text("23: an image stays as it was", x, "0123456789ab");
         due("23: back(0)", x.back(0), 11);
-        dueText("23: back(0)", x, "012xyz\n89ab");
+        Due.text("23: back(0)", x, "012xyz\n89ab");
         due("23: mark(n)", x.mark('n'), 2);
         due("23: wide(0)", x.wide(0), 0);
     }
