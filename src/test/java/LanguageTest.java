@@ -5,7 +5,9 @@ import java.lang.reflect.Modifier;
 import java.nio.file.Files;
 import java.nio.file.Path;
 import java.util.HashSet;
+import java.util.Map;
 import java.util.Set;
+import java.util.TreeMap;
 import java.util.TreeSet;
 import java.util.regex.Matcher;
 import java.util.regex.Pattern;
@@ -90,8 +92,46 @@ public final class LanguageTest {
         Due.due("NONE", ChunkView.NONE, -9);
     }
 
+    private static String withoutComments(String source) {
+        return source.replaceAll("(?s)/\\*.*?\\*/", "").replaceAll("//[^\n]*", "");
+    }
+
+    // Methods by their names: those of like names are taken for one, so that a depth may come out too great, not too
+    // small.
+    private static Map<String, String> bodies(String code) {
+        Map<String, String> bodies = new TreeMap<>();
+        Matcher method = Pattern.compile("(?ms)^( {4}| {8})(?:[\\w\\[\\]]+ )*(\\w+)\\([^)]*\\) \\{\n(.*?)^\\1\\}")
+            .matcher(code);
+        while (method.find()) {
+            long lines = method.group(3).lines().count() + 2;
+            Due.holds(method.group(2) + " has at most sixty lines", lines <= 60);
+            bodies.merge(method.group(2), method.group(3), String::concat);
+        }
+        return bodies;
+    }
+
+    private static int depth(String name, Map<String, String> bodies, int open) {
+        int deepest = open;
+        Matcher call = Pattern.compile("\\b(\\w+)\\(").matcher(bodies.get(name));
+        while (open <= 8 && call.find()) {
+            if (bodies.containsKey(call.group(1))) {
+                deepest = Math.max(deepest, depth(call.group(1), bodies, open + 1));
+            }
+        }
+        return deepest;
+    }
+
+    private static void sizes(String source) {
+        Map<String, String> bodies = bodies(withoutComments(source));
+        for (String shape : FACE) {
+            String name = shape.replaceAll(".* |\\(.*", "");
+            Due.holds(name + " was found", bodies.containsKey(name));
+            Due.holds(name + " goes at most eight deep", depth(name, bodies, 1) <= 8);
+        }
+    }
+
     private static void words(String source) {
-        String code = source.replaceAll("(?s)/\\*.*?\\*/", "").replaceAll("//[^\n]*", "");
+        String code = withoutComments(source);
         for (String word : RULED_OUT) {
             Matcher found = Pattern.compile(word).matcher(code);
             Due.holds("no " + word, !found.find());
@@ -102,7 +142,9 @@ public final class LanguageTest {
     public static void main(String[] args) throws Exception {
         face();
         constants();
-        words(Files.readString(Path.of(args[0])));
+        String source = Files.readString(Path.of(args[0]));
+        words(source);
+        sizes(source);
         Due.ends();
     }
 }

@@ -3,8 +3,8 @@ import java.util.function.Supplier;
 
 /**
  * The bounds of each call, by promises: the last number that is taken and the first that is refused on each side, what
- * refuses it in which state, and that nothing changes behind a refused call. "Refused, and nothing changes, the first of
- * these: BAD (a number is not as told, or there is no such thing), STATE (as told), FULL."
+ * refuses it in which state, and that nothing changes behind a refused call. "Refused, and nothing changes, the first
+ * of these: BAD (a number is not as told, or there is no such thing), STATE (as told), FULL."
  */
 public final class RefusedTest {
     private static final int BAD = ChunkView.BAD, STATE = ChunkView.STATE, FULL = ChunkView.FULL;
