@@ -26,6 +26,9 @@ public final class LanguageTest {
         "\\bassert\\b", "->", "::", "\\bimport\\b", "\\bpackage\\b", "\\bObject\\b", "Exact\\b", "\\bthis\\b\\s*[,)]",
         "\\bequals\\b", "\\bhashCode\\b", "\\btoString\\b", "\\bSystem\\.(?!arraycopy)", "\\bstatic\\s*\\{"};
 
+    // Of the library's classes the program uses this one alone.
+    private static final Set<String> LIBRARY = Set.of("Math");
+
     private LanguageTest() {
     }
 
@@ -130,6 +133,18 @@ public final class LanguageTest {
         }
     }
 
+    private static void library(String source) {
+        Set<String> known = new HashSet<>(LIBRARY);
+        known.add("ChunkView");
+        for (Class<?> own : ChunkView.class.getDeclaredClasses()) {
+            known.add(own.getSimpleName());
+        }
+        Matcher name = Pattern.compile("\\b[A-Z]\\w*[a-z]\\w*").matcher(withoutComments(source));
+        while (name.find()) {
+            Due.holds(name.group() + " is an own class or one that the rules list", known.contains(name.group()));
+        }
+    }
+
     private static void words(String source) {
         String code = withoutComments(source);
         for (String word : RULED_OUT) {
@@ -144,6 +159,7 @@ public final class LanguageTest {
         constants();
         String source = Files.readString(Path.of(args[0]));
         words(source);
+        library(source);
         sizes(source);
         Due.ends();
     }
